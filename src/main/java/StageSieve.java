@@ -260,7 +260,7 @@ public final class StageSieve {
         if (kept == KEPT) {
             return FULL;
         }
-        (kept == 0 ? firstKept : secondKept).copy(course);
+        keptAt(kept).copy(course);
         kept++;
         return kept;
     }
@@ -270,7 +270,7 @@ public final class StageSieve {
             return NO;
         }
         kept--;
-        course.copy(kept == 0 ? firstKept : secondKept);
+        course.copy(keptAt(kept));
         return kept;
     }
 
@@ -285,6 +285,10 @@ public final class StageSieve {
             case 6: return kept;
             default: return BAD;
         }
+    }
+
+    private Course keptAt(int place) {
+        return place == 0 ? firstKept : secondKept;
     }
 
     // ---- rows of numbers, looked at before they are used

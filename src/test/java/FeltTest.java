@@ -48,6 +48,9 @@ public final class FeltTest {
         due("15: nothing", x.words(1), 1000);
         due("15: ask", x.words(2), -1);
         due("15: ask below", x.words(-1), -1);
+        due("15: 90 hundredths", Check.laid("s9,3,0,1;a3,0,0,1;").words(0), 1000);
+        due("15: 100 hundredths", Check.laid("s9,3,0,1;s1,3,9,9;a3,0,0,1;").words(0), 1001);
+        due("15: 190 hundredths", Check.laid("s9,3,0,1;s1,3,0,10;a3,0,0,1;").words(0), 1001);
         StageSieve all = Check.laid("s60,0,0,10;s60,0,0,10;a0,0,0,1;");
         due("15: everybody", all.words(0), 1120);
     }

@@ -159,6 +159,10 @@ public final class LeftTest {
         due("13: the second of equals", x.best(2, 90, 1, 1), 0);
         due("13: of those short enough", x.best(2, 9, 1, 1), 2);
         due("13: of those shorter still", x.best(2, 5, 1, 0), 2);
+        StageSieve asks = Check.laid("s1,9,0,0;a9,0,10,5;a8,0,10,5;a7,0,10,5;a6,0,10,5;a5,0,10,5;a0,0,10,1;");
+        due("13: the last of six asks", asks.best(1, 4, 1, 0), 10);
+        due("13: of six asks", asks.best(3, 90, 1, 0), 1);
+        due("13: the last of three", asks.best(3, 3, 0, 2), 11);
         StageSieve none = Check.laid("s4,0,0,0;a10,0,10,5;");
         due("13: odds 0 are odds", none.best(1, 5, 3, -1), 0);
         due("13: the first of no odds", none.best(1, 5, 3, 0), 0);

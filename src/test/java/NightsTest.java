@@ -8,6 +8,7 @@ public final class NightsTest {
 
     public static void main(String[] args) {
         nightOfOneStep();
+        nightOnStage();
         nightThatFollows();
         stepsToSix();
         one();
@@ -105,7 +106,29 @@ public final class NightsTest {
         due("24: seven of eight", Check.laid("s7,10,0,0;s1,0,0,0;a0,0,10,1;t0,0;").night(0, 2), -4);
     }
 
+    /** Words and fear count: felt 3, play 4. */
+    private static void nightOnStage() {
+        StageSieve x = Check.laid("s60,4,2,4;a3,2,2,1;t0,0;");
+        for (int z = 0; z < 10; z++) {
+            int felt = 0;
+            int played = 0;
+            for (int person = 0; person < 60; person++) {
+                int draw = draw(z, person, 0);
+                felt += draw < 30 ? 1 : 0;
+                played += draw >= 30 && draw < 58 ? 1 : 0;
+            }
+            due("24: on stage, " + z, x.night(z, 0), felt + played);
+            due("24: players on stage, " + z, x.night(z, 1), played);
+        }
+    }
+
     private static void one() {
+        StageSieve full = Check.laid("s60,0,0,0;s60,0,10,0;a10,0,0,1;");
+        due("25: the last of 120", full.one(0, 119), 119);
+        due("25: behind 120", full.one(0, 120), -4);
+        full.step(0, 0);
+        due("25: the last player of 120", full.one(0, 59), 119);
+        due("24: sixty players", full.night(0, 1), 60);
         StageSieve x = Check.laid("s2,0,0,0;s3,10,0,0;s1,0,0,0;s60,10,0,0;a0,0,10,1;");
         due("25: no row", x.one(0, 2), 2);
         due("25: the last", x.one(9999, 65), 65);
